@@ -713,11 +713,6 @@ public final class RodYard {
         final int[] patternSize = new int[MAX_PATTERNS];
         final int[][] pattern = new int[MAX_PATTERNS][MAX_PATTERN_SIZE];
 
-        void clearAll() {
-            kinds = 0;
-            patterns = 0;
-        }
-
         void copyFrom(Plan other) {
             kinds = other.kinds;
             patterns = other.patterns;
@@ -777,19 +772,6 @@ public final class RodYard {
         int cuts;
         final int[][] log = new int[LOG_ROWS][MAX_LOG];
         final int[] account = new int[ACCOUNTS];
-
-        void clearAll() {
-            round = 0;
-            rods = 0;
-            orders = 0;
-            cuts = 0;
-            for (int length = 0; length <= MAX_LENGTH; length++) {
-                store[length] = 0;
-            }
-            for (int i = 0; i < ACCOUNTS; i++) {
-                account[i] = 0;
-            }
-        }
 
         void copyFrom(State other) {
             round = other.round;
@@ -1372,10 +1354,11 @@ public final class RodYard {
         private void beginText(int n) {
             end = Math.min(n, MAX_BYTES);
             at = 0;
-            start = 0;
-            error = 0;
-            plan.clearAll();
-            state.clearAll();
+            plan.kinds = 0;
+            plan.patterns = 0;
+            // A text only brings rods, orders and settings; all else of this state stays as it was made.
+            state.rods = 0;
+            state.orders = 0;
         }
 
         int semicolonsAhead() {

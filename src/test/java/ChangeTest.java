@@ -15,6 +15,7 @@ public final class ChangeTest {
         cancelAndScrap();
         setSetting();
         undoOfEachChange();
+        anotherInPlace();
         undoOfNothing();
         eightChanges();
         failuresAreNoChanges();
@@ -312,6 +313,45 @@ public final class ChangeTest {
         }
         CHECK.fails("the ninth is not kept", Check.STATE, x::undo);
         CHECK.sameText("nothing changes", all(x), ahead[1]);
+    }
+
+    /** What was undone must not show in what comes in its place. */
+    private static void anotherInPlace() {
+        RodYard x = Yards.of(TEXT);
+        for (int i = 0; i < 2; i++) {
+            x.addOrder(30, 2, 5, 0);
+            x.buy(0);
+            CHECK.same("a new rod in stock", x.rod(3, 2), 0);
+            CHECK.same("a new rod without pieces", x.rod(3, 3), 0);
+            CHECK.same("a new rod is not cut", x.rod(3, 4), 0);
+            CHECK.same("a new order with none in time", x.order(2, 5), 0);
+            CHECK.same("a new order with none late", x.order(2, 6), 0);
+            CHECK.same("a new order is not cancelled", x.order(2, 7), 0);
+            CHECK.same("a new order lacks all", x.order(2, 4), 2);
+            x.cutPiece(3, 30);
+            x.endRound();
+            x.cutPiece(3, 10);
+            x.addOrder(10, 1, 1, 0);
+            x.cancel(2);
+            x.scrap(3);
+            for (int undos = 0; undos < 8; undos++) {
+                x.undo();
+            }
+            x.restore(save(x));
+        }
+        // The same numbers of cuts, but other ones.
+        x.cutPiece(0, 11);
+        x.save(1);
+        x.undo();
+        x.cutPiece(1, 12);
+        x.restore(1);
+        CHECK.same("the cut's rod", x.cut(0, 1), 0);
+        CHECK.same("the cut's length", x.cut(0, 2), 11);
+    }
+
+    private static int save(RodYard x) {
+        x.save(0);
+        return 0;
     }
 
     private static void undoOfNothing() {

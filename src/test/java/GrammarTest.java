@@ -92,6 +92,11 @@ public final class GrammarTest {
         bad("yard kerf 0 keep 1;patterns 1", 1, 19, 1);
         bad("yard kerf 0 keep 1;abcdefghi 1", 1, 19, 1);
         bad("yard kerf 0 keep 1;yard", 1, 19, 1);
+        bad("yard kerf 0 keep 1;kindz 1 1", 1, 19, 1);
+        bad("yard kerf 0 keep 1;kinda 1 1", 1, 19, 1);
+        bad("yard kerf 0 keep 1;lind 1 1", 1, 19, 1);
+        bad("zard kerf 0 keep 1", 1, 0, 0);
+        bad(";;yard", 1, 0, 0);
         bad("yard kerf 0 keep 1;5", 1, 19, 1);
         bad("yard kerf 0 keep 1 pattern 1", 1, 19, 0);
         bad("yard kerf 0 keep 1;pattern 1;pattern 1 ;pattern a", 1, 48, 3);

@@ -8,6 +8,7 @@ public final class InputTest {
         fullBuffer();
         loadBounds();
         loadReplacesTheYard();
+        oneTextAfterAnother();
         failedLoadKeepsTheYard();
         CHECK.end();
     }
@@ -179,6 +180,27 @@ public final class InputTest {
         CHECK.same("second load: rod 0 cut", x.rod(0, 4), 0);
         CHECK.same("second load: lacking", x.order(0, 4), 1);
         CHECK.same("second load: in time", x.order(0, 5), 0);
+    }
+
+    /** The same object reads one text after another. */
+    private static void oneTextAfterAnother() {
+        RodYard x = Yards.of("yard kerf 0 keep 1;kind 5 5;rods 0 3;order 1 1 1 1;pattern 1 2 3 4 5 6;pattern 7 8");
+        String text = "yard kerf 0 keep 1;kind 5 5;rods 0 2;order 2 2 2 2;pattern 9 8;pattern 7 6 5";
+        Yards.put(x, text);
+        CHECK.same("another text", x.load(text.length()), 2);
+        CHECK.same("orders of another text", x.count(2), 1);
+        CHECK.same("pattern 0 of another text", x.patternSize(0), 2);
+        CHECK.same("pattern 1 of another text", x.patternSize(1), 3);
+        CHECK.same("its last length", x.patternLength(1, 2), 5);
+        CHECK.fails("no third length", Check.INDEX, () -> x.patternLength(0, 2));
+        // What stands behind the first n bytes is not read.
+        Yards.put(x, "yardx");
+        CHECK.fails("yard alone", Check.ARGUMENT, () -> x.load(4));
+        CHECK.same("yard alone: position", x.errorPosition(), 4);
+        Yards.put(x, "yard kerf 0 keep 15");
+        CHECK.same("keep 1 alone", x.load(18), 0);
+        CHECK.same("KEEP", x.setting(1), 1);
+        CHECK.fails("no patterns any more", Check.INDEX, () -> x.patternLength(0, 0));
     }
 
     private static void failedLoadKeepsTheYard() {

@@ -7,6 +7,7 @@ public final class PatternTest {
         patternRods();
         wantedPatterns();
         bestOfARod();
+        eachAlone();
         wrongNumbers();
         CHECK.end();
     }
@@ -79,6 +80,9 @@ public final class PatternTest {
         best("each no more often than it is lacking", Yards.of(head + ";order 30 2 0 0"), 0, 40, 2);
         best("fewest pieces", Yards.of(head + ";order 20 5 0 0;order 50 2 0 0;order 40 1 0 0"), 0, 0, 2);
         best("33 thrice", Yards.of(head + ";order 33 9 0 0;order 98 1 0 0"), 0, 1, 3);
+        best("a piece of 1", Yards.of(head + ";order 1 1 0 0"), 1, 9, 1);
+        best("a piece of 1 and nine", Yards.of(head + ";order 1 1 0 0;order 9 1 0 0"), 1, 0, 2);
+        best("4 and 6, or 3 and 3 and 4", Yards.of(head + ";order 3 2 0 0;order 4 1 0 0;order 6 1 0 0"), 1, 0, 2);
         best("two orders of a length", Yards.of(head + ";order 25 2 0 0;order 25 2 0 5"), 0, 0, 4);
         RodYard x = Yards.of("yard kerf 4 keep 1;kind 100 1;rods 0 2;order 46 2 0 0;order 97 1 0 0;order 40 1 0 0");
         best("kerf behind the last piece is cut short", x, 0, 0, 1);
@@ -99,6 +103,13 @@ public final class PatternTest {
                 0, 1);
         best("20 pieces of 1", Yards.of("yard kerf 9 keep 1;kind 200 1;rods 0 1;order 1 9 0 0;order 1 9 0 0;"
                 + "order 1 9 0 0"), 0, 0, 20);
+    }
+
+    private static void eachAlone() {
+        RodYard x = Yards.of("yard kerf 0 keep 1;kind 10 1;rods 0 1;order 3 2 1 1");
+        CHECK.same("bestPieces alone", x.bestPieces(0), 2);
+        x.cancel(0);
+        CHECK.same("bestPieces behind cancel", x.bestPieces(0), 0);
     }
 
     private static void wrongNumbers() {

@@ -4,6 +4,7 @@ public final class ViewTest {
 
     public static void main(String[] args) {
         counts();
+        lengthsOfTheStore();
         kindsAndRods();
         orders();
         patternsAndSettings();
@@ -43,6 +44,21 @@ public final class ViewTest {
         CHECK.fails("count(-1)", Check.ARGUMENT, () -> x.count(-1));
         CHECK.fails("count(8)", Check.ARGUMENT, () -> x.count(8));
         CHECK.fails("count(least)", Check.ARGUMENT, () -> x.count(Integer.MIN_VALUE));
+    }
+
+    private static void lengthsOfTheStore() {
+        RodYard x = Yards.of("yard kerf 0 keep 1;kind 200 1;rods 0 2");
+        x.cutPiece(0, 200);
+        x.cutPiece(1, 1);
+        x.cutPiece(1, 198);
+        CHECK.same("pieces in the store", x.count(7), 3);
+        CHECK.same("a rod with the length 1", x.longest(), 1);
+        x.save(0);
+        x.endRound();
+        x.addOrder(200, 1, 1, 1);
+        x.restore(0);
+        CHECK.same("stored(200) behind restore", x.stored(200), 1);
+        CHECK.same("stored(198) behind restore", x.stored(198), 1);
     }
 
     private static void kindsAndRods() {
@@ -111,6 +127,8 @@ public final class ViewTest {
         CHECK.fails("patternSize(2)", Check.INDEX, () -> x.patternSize(2));
         CHECK.same("patternLength", x.patternLength(1, 0), 25);
         CHECK.same("patternLength", x.patternLength(1, 2), 40);
+        CHECK.fails("patternLength(-1, 0)", Check.INDEX, () -> x.patternLength(-1, 0));
+        CHECK.fails("patternLength(6, 0)", Check.INDEX, () -> x.patternLength(6, 0));
         CHECK.fails("patternLength(2, 0)", Check.INDEX, () -> x.patternLength(2, 0));
         CHECK.fails("patternLength(0, 2)", Check.INDEX, () -> x.patternLength(0, 2));
         CHECK.fails("patternLength(0, -1)", Check.INDEX, () -> x.patternLength(0, -1));

@@ -8,6 +8,7 @@ public final class WhatIfTest {
         lossesOfThisRound();
         lackingIf();
         bestPolicy();
+        bestFitOrWorstFit();
         rodsNeeded();
         cheapestKind();
         roundsToFill();
@@ -121,6 +122,22 @@ public final class WhatIfTest {
                 .bestPolicy(), 1);
         CHECK.same("least loss", Yards.of("yard kerf 1 keep 60;kind 50 1;kind 100 1;rods 0 1;rods 1 1;order 30 1 1 0")
                 .bestPolicy(), 2);
+    }
+
+    /** 60 and 40, 45 and 30 and 25 by policy 1; by policy 2 45 and 40, 60 and 30, and no 25. */
+    private static void bestFitOrWorstFit() {
+        String orders = ";order 60 1 1 0;order 45 1 1 0;order 40 1 1 0;order 30 1 1 0;order 25 1 1 0";
+        RodYard x = Yards.of("yard kerf 0 keep 1;kind 100 1;rods 0 2" + orders);
+        ifFilled("best fit", x, 1, 5, 0, 0, 0, 0, 0, 0);
+        ifFilled("worst fit", x, 2, 4, 0, 0, 0, 0, 0, 1);
+        ifFilled("best fit behind patterns", x, 3, 5, 0, 0, 0, 0, 0, 0);
+        CHECK.same("roundsToFill by best fit", x.roundsToFill(0), 0);
+        CHECK.same("rodsNeeded by best fit", Yards.of("yard kerf 0 keep 1;kind 100 1" + orders).rodsNeeded(0), 2);
+        RodYard y = Yards.of("yard kerf 0 keep 1;kind 100 1;rods 0 2" + orders + ";pattern 60 25");
+        // 60 25, then 45 and 40 of rod 1, then 30 goes into neither 15.
+        ifFilled("a pattern ahead", y, 3, 4, 0, 0, 0, 0, 1, 0);
+        // The same numbers of rods by policy 0 as by policy 1, and the same loss.
+        CHECK.same("a pattern ahead is worse", y.bestPolicy(), 0);
     }
 
     private static void rodsNeeded() {
