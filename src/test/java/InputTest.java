@@ -23,12 +23,11 @@ public final class InputTest {
         CHECK.same("new: cuts", x.cuts(), 0);
         CHECK.same("new: undoable", x.undoable(), 0);
         CHECK.fails("new: textByte(0)", Check.INDEX, () -> x.textByte(0));
-        noYard("new", x);
+        noYard(CHECK, "new", x);
     }
 
     /** IllegalStateException comes first wherever it is listed first, whatever the arguments are. */
-    private static void noYard(String when, RodYard x) {
-        Check c = CHECK;
+    static void noYard(Check c, String when, RodYard x) {
         c.fails(when + ": count", Check.STATE, () -> x.count(-1));
         c.fails(when + ": kind", Check.STATE, () -> x.kind(-1, true));
         c.fails(when + ": rod", Check.STATE, () -> x.rod(-1, -1));

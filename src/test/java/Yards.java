@@ -1,5 +1,12 @@
 /** Puts texts into yards and takes texts out of them. */
 final class Yards {
+    /** A text with as many kinds, rods, orders and patterns as there can be. */
+    static final String FULL = "yard kerf 0 keep 1;kind 10 1;kind 20 2;kind 30 3;kind 200 99;rods 0 9;rods 1 9;rods 3 6"
+            + ";order 200 9 99 0;order 1 9 0 99;order 2 9 9 9;order 3 9 9 9;order 4 9 9 9;order 5 9 9 9;order 6 9 9 9"
+            + ";order 7 9 9 9;order 8 9 9 9;order 9 9 9 9;order 10 9 9 9;order 11 9 9 99"
+            + ";pattern 1 2 3 4 5 6;pattern 2 3 4 5 6 7;pattern 3 4 5 6 7 8;pattern 4 5 6 7 8 9;pattern 5 6 7 8 9 10"
+            + ";pattern 200 200 200 200 200 11";
+
     private Yards() {
     }
 
